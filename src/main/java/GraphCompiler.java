@@ -212,6 +212,13 @@ public final class GraphCompiler {
         return op != GOTO && op != RETURN;
     }
 
+    /** The library's fill is allowed over numbers alone. */
+    private static void forgetAll(boolean[] marks) {
+        for (int i = 0; i < marks.length; i++) {
+            marks[i] = false;
+        }
+    }
+
     /** NEG looks at x alone. */
     private static int calculate(int op, int x, int y) {
         switch (op) {
@@ -289,7 +296,7 @@ public final class GraphCompiler {
                 return 0;
             }
             Arrays.fill(heights, NO_HEIGHT);
-            Arrays.fill(looked, false);
+            forgetAll(looked);
             heights[0] = 0;
             int bad = NOWHERE;
             int place = 0;
@@ -388,7 +395,7 @@ public final class GraphCompiler {
 
         /** A jump that is not COME TO makes no leader: its target may lie inside a block. */
         private void markLeaders(Code code, int[] placeHeights) {
-            Arrays.fill(leads, false);
+            forgetAll(leads);
             leads[0] = true;
             for (int place = 0; place < code.size; place++) {
                 if (placeHeights[place] != Check.NO_HEIGHT) {
@@ -468,9 +475,9 @@ public final class GraphCompiler {
         }
 
         private void begin() {
-            Arrays.fill(met, false);
-            Arrays.fill(stale, false);
-            Arrays.fill(sure, false);
+            forgetAll(met);
+            forgetAll(stale);
+            forgetAll(sure);
             met[0] = true;
             for (int slot = GIVEN_LOCALS; slot < LOCALS; slot++) {
                 sure[slot] = true;
@@ -606,7 +613,7 @@ public final class GraphCompiler {
 
         /** Operands are older than what is made of them, so one way down from the newest meets all. */
         private void markUsed() {
-            Arrays.fill(used, false);
+            forgetAll(used);
             for (int slot = 0; slot < end; slot++) {
                 used[slots[slot]] = true;
             }
@@ -617,7 +624,7 @@ public final class GraphCompiler {
                 used[takenY] = true;
             }
             for (int value = size - 1; value >= 0; value--) {
-                used[value] |= isPinned(value);
+                used[value] = used[value] || isPinned(value);
                 if (used[value] && isArithmetic(ops[value])) {
                     used[xs[value]] = true;
                     used[ys[value]] = true;
