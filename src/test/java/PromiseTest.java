@@ -256,6 +256,11 @@ public final class PromiseTest {
         due("no cell below", g.known(1, -1), NONE);
         due("outcome of the top cell", g.outcome(0, 11), 9);
         due("text of a cell", textOf(g, 0, 10), "e2");
+        // Slot 12 of a block is no other name for slot 0 of the next, which is known here.
+        g = compiled(3, ins(CONST, 1), ins(DUP), ins(DUP), ins(DUP), ins(GOTO, 5), ins(STORE, 0), ins(GOTO, 7), ins(RETURN));
+        due("four cells again", g.height(1), 4);
+        due("slot 0 of the next", g.known(2, 0), 1);
+        due("no slot 12", g.known(1, 12), NONE);
     }
 
     static void reachedAndKnown() {
@@ -610,8 +615,27 @@ public final class PromiseTest {
         due("5 is known again", g.known(0, 5), 0);
         due("one way again", g.reached(1) ? 1 : 0, 0);
         due("not reached: open", g.known(1, 5), NONE);
+        due("not reached: open, though known of the older code", g.known(1, 4), NONE);
         due("the other way", g.known(2, 5), 0);
         due("run", g.run(0, 0, 0, 0, 2), 9);
+        due("clear again", g.clear(), 6);
+        write(g, ins(LOAD, 5), ins(DUP), ins(ADD), ins(DUP), ins(ADD), ins(RETURN));
+        due("no leaders of the older code", g.compile(), 1);
+    }
+
+    /** Answers about one block leave those about another as they are. */
+    static void blocksApart() {
+        // What the second and the third make is dropped, and nothing is taken at their ends.
+        GraphCompiler g = compiled(3, ins(LOAD, 0), ins(NEG), ins(DUP), ins(LOAD, 1), ins(ADD), ins(IFLESS, 10),
+            ins(LOAD, 0), ins(NEG), ins(POP), ins(INC, 1, 0), ins(LOAD, 0), ins(LOAD, 1), ins(SUB), ins(NEG), ins(POP), ins(GOTO, 10));
+        due("nodes of the first", g.nodes(0), 2);
+        due("nodes of the second", g.nodes(1), 0);
+        due("nodes of the first again", g.nodes(0), 2);
+        due("nodes of the third", g.nodes(2), 0);
+        due("saved of the third", g.saved(2), 2);
+        due("text between", textOf(g, 0, 0), "e0");
+        due("pinned of the third", g.pinned(2), 0);
+        due("nodes of the third again", g.nodes(2), 0);
     }
 
     public static void main(String[] args) {
@@ -630,6 +654,7 @@ public final class PromiseTest {
         run();
         count();
         compileAgain();
+        blocksApart();
         System.out.println(wrong == 0 ? asked + " answers are as due" : wrong + " answers of " + asked + " are not as due");
         if (wrong != 0) {
             System.exit(1);
