@@ -247,7 +247,13 @@ public final class CallEdgesTest extends Trial {
             chain.append("GOTO ").append(i % 24).append("; ");
         }
         rewrite(g, 24, chain.toString());
+        due("all of them reached", g.count(2), 24);
+        rewrite(g, 3, "LOAD 4; IFZERO 4; CONST 1; RETURN; CONST 2; RETURN");
+        due("one reached in the code before is not in this", g.reached(1), false);
+        due("nor counted", g.count(2), 2);
+        due("what was known in the code before is open in this", g.known(1, 4), NONE);
         rewrite(g, 1, ENDLESS);
+        due("nothing of the code before is counted", g.count(2), 1);
 
         of("What is compiled stays.");
         g = compiled(1, "CONST 5; RETURN");
@@ -283,6 +289,10 @@ public final class CallEdgesTest extends Trial {
         due("set to none", g.badAt(), -1);
         g.patch(0, ADD, 0, 0);
         due("spoilt, but not compiled", g.badAt(), -1);
+        g.compile();
+        due("spoilt and compiled", g.badAt(), 0);
+        due("a run of what was compiled before", g.run(0, 0, 0, 0, 1), 1);
+        due("which does not change it", g.badAt(), 0);
     }
 
     static void leadersAndHeights() {

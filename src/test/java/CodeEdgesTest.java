@@ -129,6 +129,7 @@ public final class CodeEdgesTest extends Trial {
 
         of("POP: takes x.");
         due("POP", answer("LOAD 0; LOAD 1; POP; RETURN", 7, 2), 7);
+        due("POP leaves all below", answer("LOAD 0; LOAD 1; LOAD 2; POP; SUB; RETURN", 7, 2, 9), 5);
     }
 
     static void localsOf(int op) {

@@ -51,6 +51,7 @@ public final class ValueEdgesTest extends Trial {
         due("none are asked for", g.saved(0), 0);
         due("what DUP left", textOf(g, 0, 4), "e0");
         due("what SWAP and POP left", textOf(g, 0, 5), "e1");
+        due("POP leaves all below", made("LOAD 0; LOAD 1; LOAD 2; POP; SUB"), "(e0-e1)");
     }
 
     /** How many values there are after both codes have left one. */
@@ -233,6 +234,10 @@ public final class ValueEdgesTest extends Trial {
         due("IFLESS, both", compiled(2, "LOAD 1; NEG; LOAD 0; NEG; IFLESS 5; CONST 0; RETURN").nodes(0), 2);
         due("RETURN", compiled(1, "LOAD 0; NEG; RETURN").nodes(0), 1);
         due("POP is none of them", compiled(1, "LOAD 0; NEG; POP; GOTO 0").nodes(0), 0);
+        // Block 1 makes what IFLESS takes in block 0, and drops it.
+        g = compiled(2, "LOAD 0; NEG; LOAD 1; NEG; IFLESS 5; LOAD 0; NEG; POP; LOAD 1; NEG; POP; GOTO 5");
+        due("of block 0", g.nodes(0), 2);
+        due("of block 0 alone", g.nodes(1), 0);
 
         of("A DIV made in step 6 whose y is not a CONST other than 0 is PINNED.");
         pinnedBy("LOAD 0", "LOAD 1", 1);
@@ -366,6 +371,8 @@ public final class ValueEdgesTest extends Trial {
             due("a cell, to " + block, g.known(block, 8), 6);
             due("no cell that IFZERO took, to " + block, g.known(block, 9), NONE);
         }
+        g = compiled(3, "GOTO 3; LOAD 4; RETURN; INC 4 5; GOTO 1");
+        due("to one that stands before it", g.known(1, 4), 5);
 
         of("a CONST is handed over as that, anything else as open.");
         g = compiled(2, "CONST MIN; STORE 4; INC 5 -1; LOAD 0; NEG; STORE 6; CONST 1; CONST 0; DIV; STORE 7; CONST MAX; LOAD 1; "
@@ -387,6 +394,9 @@ public final class ValueEdgesTest extends Trial {
         meets("CONST 3", "LOAD 0", NONE);
         meets("LOAD 0", "CONST 3", NONE);
         meets("LOAD 0", "LOAD 0", NONE);
+        due("a cell: one CONST", compiled(4, "LOAD 0; IFZERO 4; CONST 3; GOTO 5; CONST 3; RETURN").known(3, 8), 3);
+        due("a cell: two CONSTs", compiled(4, "LOAD 0; IFZERO 4; CONST 3; GOTO 5; CONST 4; RETURN").known(3, 8), NONE);
+        due("a cell: an open one", compiled(4, "LOAD 0; IFZERO 4; CONST 3; GOTO 5; LOAD 1; RETURN").known(3, 8), NONE);
         due("one that hands over twice", compiled(2, "CONST 3; STORE 4; LOAD 0; IFZERO 4; LOAD 4; RETURN").known(1, 4), 3);
         g = compiled(1, "CONST 7; STORE 0; CONST 0; STORE 4; INC 5 1; GOTO 0");
         due("block 0: open at its start", g.known(0, 0), NONE);
@@ -406,6 +416,16 @@ public final class ValueEdgesTest extends Trial {
         for (int slot = 4; slot < 8; slot++) {
             due("slot " + slot + " opens in its round", g.known(1, slot), NONE);
         }
+        // The same with a way round of 15 blocks, so that the last one opens after some seventy steps.
+        StringBuilder way = new StringBuilder();
+        for (int place = 9; place < 23; place++) {
+            way.append("GOTO ").append(place + 1).append("; ");
+        }
+        g = compiled(16, "GOTO 1; LOAD 6; STORE 7; LOAD 5; STORE 6; LOAD 4; STORE 5; LOAD 0; STORE 4; " + way + "GOTO 1");
+        for (int block = 1; block < 16; block++) {
+            due("slot 7 opens in block " + block, g.known(block, 7), NONE);
+        }
+        due("but not at the start", g.known(0, 7), 0);
         // What only the endless loop could change is not changed by it: the exit is never reached.
         g = compiled(3, "LOAD 5; IFZERO 4; LOAD 5; RETURN; INC 4 1; GOTO 0");
         due("the exit", g.reached(1), false);
