@@ -738,6 +738,46 @@ public final class RandomCodeTest {
             due(call, g.run(in[0], in[1], in[2], in[3], fuel), r.run(in[0], in[1], in[2], in[3], fuel));
         }
 
+        /** Now and then any int at all, else one in range or beside it. */
+        int any(int size, int wildness) {
+            return random.nextInt(wildness) == 0 ? random.nextBoolean() ? random.nextInt() : number() : near(size);
+        }
+
+        void anyCall(int wildness) {
+            int kind = random.nextInt(24);
+            if (kind == 0) {
+                emit(any(20, wildness), any(random.nextBoolean() ? 7 : 23, wildness), any(9, wildness));
+            } else if (kind < 4) {
+                patchAnything(wildness);
+            } else if (kind == 4 && random.nextInt(8) == 0) {
+                clear();
+                writeFitting();
+            } else if (kind < 8) {
+                compile();
+            } else if (kind == 8) {
+                calls++;
+                due("badAt()", g.badAt(), r.bad);
+            } else if (kind == 9) {
+                calls++;
+                int what = any(3, wildness);
+                due("count(" + what + ")", g.count(what), r.count(what));
+            } else if (kind < 13) {
+                askOfRuns();
+            } else {
+                askOfBlock(any((int) Math.max(1, r.count(1)), wildness));
+            }
+        }
+
+        /** Often the instruction that is there with another operand, so that the code stays good. */
+        void patchAnything(int wildness) {
+            int i = any(Math.max(1, r.code.size() - 1), wildness);
+            int op = any(20, wildness);
+            if (random.nextInt(4) > 0 && i >= 0 && i < r.code.size()) {
+                op = r.code.get(i).op();
+            }
+            patch(i, op, any(op >= 16 && op <= 18 ? 23 : 7, wildness), any(9, wildness));
+        }
+
         void ask(int times) {
             for (int i = 0; i < times && more(); i++) {
                 if (random.nextInt(4) == 0) {
@@ -785,6 +825,18 @@ public final class RandomCodeTest {
         }
     }
 
+    /** No call waits for another: each is drawn anew, and so is each argument. */
+    static void anyOrder(long seed) {
+        Pair pair = new Pair(seed);
+        int wildness = 2 + pair.random.nextInt(20);
+        if (pair.random.nextInt(4) > 0) {
+            pair.writeFitting();
+        }
+        while (pair.more()) {
+            pair.anyCall(wildness);
+        }
+    }
+
     static void whole(long seed) {
         Pair pair = new Pair(seed);
         pair.writeFitting();
@@ -800,6 +852,8 @@ public final class RandomCodeTest {
         for (int seed = 0; seed < rounds; seed++) {
             where = "mixed calls of seed " + seed;
             mixed(seed);
+            where = "calls in any order of seed " + seed;
+            anyOrder(seed + 2000000);
             where = "whole answers of seed " + seed;
             whole(seed + 1000000);
         }
